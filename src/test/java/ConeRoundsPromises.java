@@ -335,6 +335,7 @@ public final class ConeRoundsPromises {
         due("0 0 2 ahead of 0 1 2, which sells as much", x.stop(0, 0, 3, 1), 1);
         due("0 0 2", x.stop(0, 0, 3, 2), 202);
         due("six stops at most", x.stop(0, 0, 6, 6), NONE);
+        due("stop 0 of another beginning", x.stop(0, 207, 6, 0), 207);
         due("stop(1, 0, 1, 0)", x.stop(1, 0, 1, 0), BEYOND);
         due("stop(0, 300, 1, 0)", x.stop(0, 300, 1, 0), BEYOND);
         due("stop(0, 0, 7, -1)", x.stop(0, 0, 7, -1), BEYOND);
@@ -440,6 +441,8 @@ public final class ConeRoundsPromises {
         due("wrong(3): a van needs one", x.wrong(3), 0);
         due("wrong(4): later than need be", x.wrong(4), 0);
         due("wrong(5): a cart in two hours", x.wrong(5), 0);
+        x.way(0, 1, 1);
+        due("wrong(5): the way has grown", x.wrong(5), 4);
     }
 
     private static void clear() {
@@ -533,6 +536,12 @@ public final class ConeRoundsPromises {
         due("balance(0, 1, 0, -1)", x.balance(0, 1, 0, -1), BEYOND);
         due("balance(0, 1, 0, far)", x.balance(0, 1, 0, FAR), NONE);
         due("no streets", town(0, 0, 0).balance(0, 1, 0, 0), NONE);
+        ConeRounds y = town(2, 0, 0);
+        due("all alike: the fourth", y.balance(0, 1, 11, 3), 11);
+        due("all alike: no fifth", y.balance(0, 1, 11, 4), NONE);
+        ConeRounds z = town(6, 0, 0);
+        due("six streets: the last", z.balance(0, 1, 11, 35), 55);
+        due("six streets: no more", z.balance(0, 1, 11, 36), NONE);
     }
 
     private static void together() {
@@ -551,6 +560,10 @@ public final class ConeRoundsPromises {
         x.licence(1, 0);
         due("the other may nowhere", x.together(0, 1, 5), NONE);
         due("the first may nowhere", x.together(1, 0, 5), NONE);
+        due("found(2)", x.found(2), 2);
+        x.licence(1, 8);
+        due("it may only where no street is", x.together(0, 1, 5), NONE);
+        due("likewise, told the other way", x.together(1, 0, 5), NONE);
         due("together(0, 0, 5)", x.together(0, 0, 5), BEYOND);
         due("together(2, 0, 5)", x.together(2, 0, 5), BEYOND);
         due("together(0, 2, 5)", x.together(0, 2, 5), BEYOND);
@@ -697,6 +710,9 @@ public final class ConeRoundsPromises {
         for (int what = 0; what < 7; what++) {
             due("count(" + what + ")", x.count(what), counts[what]);
         }
+        x.van(2);
+        x.stock(3, 2000);
+        due("count(5) of four", x.count(5), 2012);
         due("count(7)", x.count(7), BEYOND);
         due("count(-1)", x.count(-1), BEYOND);
     }
