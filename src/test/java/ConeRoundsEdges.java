@@ -3,9 +3,9 @@ import java.util.List;
 import java.util.Set;
 
 /**
- * A test of its own for each sentence of the document that names a boundary case. Answers are worked
- * out by hand. Behind every call that is refused or only asks, all that can be asked of an object
- * with that call and of one without it is compared: nothing may differ but what found() tells.
+ * A test of its own for each sentence of the document that names a boundary case. Answers are
+ * worked out by hand. Behind every call that is refused or only asks, some 300 answers of an object
+ * with that call and of one without it are compared: none may differ but what found() tells.
  */
 public final class ConeRoundsEdges {
     private static final int LOW = -1000000;
@@ -73,7 +73,10 @@ public final class ConeRoundsEdges {
         }
     }
 
-    /** All that can be asked of an object, which is of no more use then. */
+    /**
+     * Asks an object for its state, and spoils it. Of a BILL's days and of the seconds of THE LAW it
+     * sees only what a few days and chimes show, for an object has but 512 calls.
+     */
     private static final class Probe {
         final List<String> names = new ArrayList<>();
         final List<Integer> answers = new ArrayList<>();
