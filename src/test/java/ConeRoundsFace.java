@@ -7,9 +7,13 @@ import java.nio.file.Files;
 import java.nio.file.Path;
 import java.util.Set;
 import java.util.TreeSet;
+import java.util.regex.Matcher;
 import java.util.regex.Pattern;
 
-/** The public face is the document's and no more, and the words that LANGUAGE.md bars stay out. */
+/**
+ * The public face is the document's and no more, the words that LANGUAGE.md bars stay out, and the
+ * sizes that it tells are kept.
+ */
 public final class ConeRoundsFace {
     private static final String[] FACE = {
         "street 1", "way 3", "wish 3", "heat 1", "van 1", "as 2", "stock 2", "licence 2", "law 3",
@@ -22,6 +26,13 @@ public final class ConeRoundsFace {
         "\\bassert\\b", "\\bimport\\b", "\\bpackage\\b", "\\bprotected\\b", "->", "::", "@\\w+",
         "Exact\\b", "\\bstatic\\s*\\{", "\\bSystem\\.(?!arraycopy)", "\\bObject\\b"
     };
+    private static final Set<Class<?>> CONSTANTS = Set.of(int.class, long.class, boolean.class,
+        char.class, String.class, int[].class, long[].class, char[].class, byte[].class);
+    private static final Path PROGRAM = Path.of("src/main/java/ConeRounds.java");
+    private static final int MOST_CLASSES = 12;
+    private static final int MOST_FIELDS = 20;
+    private static final int MOST_PARAMETERS = 7;
+    private static final int MOST_LINES = 60;
     private static int wrong = 0;
 
     private static void due(String what, Object got, Object want) {
@@ -76,8 +87,52 @@ public final class ConeRoundsFace {
         }
     }
 
+    private static void checkSizes(Class<?> each) {
+        int fields = 0;
+        for (Field f : each.getDeclaredFields()) {
+            if (Modifier.isStatic(f.getModifiers())) {
+                due(f.getName() + " is final", Modifier.isFinal(f.getModifiers()), true);
+                due(f.getName() + " is a constant", CONSTANTS.contains(f.getType()), true);
+            } else {
+                fields++;
+            }
+        }
+        due(each.getName() + " has few fields", fields <= MOST_FIELDS, true);
+        for (Method m : each.getDeclaredMethods()) {
+            due(m.getName() + " takes few", m.getParameterCount() <= MOST_PARAMETERS, true);
+        }
+    }
+
+    private static void checkAllSizes() {
+        Class<?>[] inside = ConeRounds.class.getDeclaredClasses();
+        due("few classes", inside.length < MOST_CLASSES, true);
+        checkSizes(ConeRounds.class);
+        for (Class<?> each : inside) {
+            checkSizes(each);
+        }
+    }
+
+    /** A method opens with a line that ends in ") {" and closes with a brace as far to the right. */
+    private static void checkLengths() throws IOException {
+        Pattern opens = Pattern.compile("( {4}| {8})(?!if|for|while|switch)[a-z].*\\) \\{");
+        String[] lines = Files.readString(PROGRAM).split("\n");
+        int methods = 0;
+        for (int i = 0; i < lines.length; i++) {
+            Matcher head = opens.matcher(lines[i]);
+            if (head.matches()) {
+                int end = i;
+                while (end < lines.length && !lines[end].equals(head.group(1) + "}")) {
+                    end++;
+                }
+                methods++;
+                due("short: " + lines[i].trim(), end - i < MOST_LINES, true);
+            }
+        }
+        due("all methods of the face were looked at", methods > FACE.length, true);
+    }
+
     private static void checkWords() throws IOException {
-        String text = Files.readString(Path.of("src/main/java/ConeRounds.java"));
+        String text = Files.readString(PROGRAM);
         String code = text.replaceAll("(?s)/\\*.*?\\*/", "").replaceAll("//[^\n]*", "");
         for (String barred : BARRED) {
             due("holds " + barred, Pattern.compile(barred).matcher(code).find(), false);
@@ -87,6 +142,8 @@ public final class ConeRoundsFace {
     public static void main(String[] args) throws IOException {
         checkClass();
         checkMethods();
+        checkAllSizes();
+        checkLengths();
         checkWords();
         System.out.println(wrong == 0 ? "the face is as due" : wrong + " rows are not as due");
         if (wrong != 0) {
